@@ -107,5 +107,10 @@ public final class Promise07Enumeration {
     d.state("3001 by enumeration", () -> d.book.enumeration(first));
     d.book.leave();
     d.due("names go with their scope", d.book.declare(Desk.SIGNAL, 500, 0, 0), 0);
+    d.book.leave();
+    d.book.enter();
+    d.book.subtype(500, 0);
+    d.due("the 3000th by enumeration", d.book.enumeration(third) > 0 ? 1 : 0, 1);
+    d.state("3001 by enumeration", () -> d.enumeration(10, 11));
   }
 }

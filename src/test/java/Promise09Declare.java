@@ -7,6 +7,7 @@ public final class Promise09Declare {
     faults();
     order();
     wrongInputs();
+    manyConstants();
     d.end();
   }
 
@@ -86,6 +87,8 @@ public final class Promise09Declare {
     node = d.apply(100, d.number(9));
     fault("5 before 6", Desk.LOGIC, node, 5, node);
     fault("3 before 6", Desk.TRUTH, node, 3, node);
+    node = d.sliceDown(100, d.number(9), d.number(6));
+    fault("5 before 6 of a slice", row, node, 5, node);
     node = d.binary(Desk.QUOTIENT, d.number(1), d.number(0));
     fault("3 before 10", Desk.TRUTH, node, 3, node);
     fault("10", Desk.FROM_1, node, 10, node);
@@ -103,5 +106,18 @@ public final class Promise09Declare {
     d.index("node of a constant", () -> d.book.declare(0, 100, 2, 1));
     d.index("node of a constant", () -> d.book.declare(0, 100, 2, -1));
     d.due("objects", d.book.declare(0, 100, 2, node), 0);
+  }
+
+  private static void manyConstants() {
+    d.fresh();
+    int row = d.rowDown(2, 0);
+    for (int i = 0; i < 40; i++) {
+      d.constant(100 + i, row, d.apply(Desk.BITS, d.number(i), d.number(3)));
+    }
+    for (int i = 0; i < 40; i++) {
+      int node = d.name(100 + i);
+      d.isRow("constant " + i, node, Integer.toBinaryString(8 + i % 8).substring(1));
+      d.due("its number", d.book.about(node, 3), i);
+    }
   }
 }
