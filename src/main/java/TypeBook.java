@@ -1173,18 +1173,16 @@ public final class TypeBook {
     }
 
     private int bits(int node, int number, int length) {
-      if (seen.classOf(number) != INTEGER || seen.classOf(length) != INTEGER) {
+      // The document counts a length that is not constant among the wrong arguments (3), not under 5.
+      if (seen.classOf(number) != INTEGER || seen.classOf(length) != INTEGER || !seen.isFixed(length)) {
         return CLASSES;
       }
-      seen.note(node, ROW, 0, seen.isFixed(number) && seen.isFixed(length));
-      if (!seen.isFixed(length)) {
-        return NOT_CONSTANT;
-      }
       int n = seen.numberOf(length);
-      if (n < 1 || n > LONGEST_ROW) {
+      boolean isLength = n >= 1 && n <= LONGEST_ROW;
+      seen.note(node, ROW, isLength ? n : 0, seen.isFixed(number));
+      if (!isLength) {
         return LENGTHS;
       }
-      seen.note(node, ROW, n, seen.isFixed(number));
       if (seen.isFixed(number)) {
         seen.rows.setBits(node, n, seen.numberOf(number));
       }

@@ -93,11 +93,30 @@ public final class Promise10Names {
     d.looks("bits of a signal", d.apply(Desk.BITS, d.name(COUNT), d.name(SEVEN)), TypeBook.ROW, 7, 0, 3000);
     d.fault("bits of a row", d.apply(Desk.BITS, d.name(DOWN), d.number(3)), 3);
     d.fault("bits, length of a sign", d.apply(Desk.BITS, d.number(3), d.sign('1')), 3);
-    d.fault("bits, length not constant", d.apply(Desk.BITS, d.number(3), d.name(COUNT)), 5);
+    bitsLengthNotConstant();
     d.fault("bits, no length", d.apply(Desk.BITS, d.number(3), d.number(0)), 4);
     d.fault("bits, below", d.apply(Desk.BITS, d.number(3), d.number(-1)), 4);
     d.fault("bits, above", d.apply(Desk.BITS, d.name(COUNT), d.number(65)), 4);
     d.fault("bits of one", d.apply(Desk.BITS, d.number(3)), 11);
+  }
+
+  /** bits takes "a constant INTEGER n; 3 otherwise", so 5 is not for its arguments. */
+  private static void bitsLengthNotConstant() {
+    d.fault("length of a signal", d.apply(Desk.BITS, d.number(3), d.name(COUNT)), 3);
+    d.fault("length of a sum", d.apply(Desk.BITS, d.number(3), d.binary(Desk.SUM, d.number(3), d.name(COUNT))), 3);
+    d.fault("length of a row's number",
+        d.apply(Desk.BITS, d.number(3), d.apply(Desk.NUMBER, d.name(DOWN_SIGNAL))), 3);
+    d.fault("both of a signal", d.apply(Desk.BITS, d.name(COUNT), d.name(COUNT)), 3);
+    d.looks("a signal's length is constant", d.apply(Desk.BITS, d.number(3), d.attribute(DOWN_SIGNAL, 18)),
+        TypeBook.ROW, 4, 1, 3000);
+    int row = d.rowDown(3, 0);
+    int node = d.apply(Desk.BITS, d.number(3), d.name(COUNT));
+    d.fault("for a row", node, row, 3, node);
+    d.fault("for an INTEGER", node, Desk.INTEGERS, 3, node);
+    d.due("for a constant", d.book.declare(Desk.CONSTANT, 98, row, node), -3);
+    d.due("for a constant: place", d.book.place(), node);
+    d.due("below a bound", d.book.type(d.node(11, 0, d.apply(Desk.NUMBER, node), d.number(9))), -3);
+    d.due("below a bound: place", d.book.place(), node);
   }
 
   private static void slices() {

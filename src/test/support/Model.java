@@ -752,10 +752,8 @@ final class Model {
   private static void bits(Info a, Info n, Info info, TreeSet<Integer> faults) {
     info.kind = 3;
     info.constant = a.constant && n.constant;
-    if (a.kind != 2 || n.kind != 2) {
+    if (a.kind != 2 || n.kind != 2 || !n.constant) {
       faults.add(3);
-    } else if (!n.constant) {
-      faults.add(5);
     } else if (n.number.intValue() < 1 || n.number.intValue() > 64) {
       faults.add(4);
     } else {
