@@ -10,7 +10,7 @@ public final class AgainstModel {
     int answer();
   }
 
-  private static final int RUNS = 6000;
+  private static final int RUNS = 6000, MOST_CALLS = 512, NOT_ASKED = -100;
   private static final int[] NAMES = {0, 3, 5, 6, 7, 8, 10, 11, 17, 99};
   private static final Map<String, Integer> met = new HashMap<>();
 
@@ -58,6 +58,9 @@ public final class AgainstModel {
   }
 
   private int ask(String what, Call ofBook, Call ofModel) {
+    if (calls == MOST_CALLS) {
+      return NOT_ASKED;
+    }
     calls++;
     String got = answer(ofBook);
     String due = answer(ofModel);
@@ -66,11 +69,11 @@ public final class AgainstModel {
       wrong = true;
       System.out.println(told + "due is " + due);
     }
-    return due.startsWith("throws") ? -100 : Integer.parseInt(due);
+    return due.startsWith("throws") ? NOT_ASKED : Integer.parseInt(due);
   }
 
   private void run() {
-    while (calls < 480 && !wrong) {
+    while (calls < MOST_CALLS && !wrong) {
       step();
     }
   }
@@ -116,7 +119,7 @@ public final class AgainstModel {
   }
 
   private static void fault(int answer) {
-    met.merge(answer < 0 && answer > -100 ? "fault " + -answer : "right", 1, Integer::sum);
+    met.merge(answer < 0 && answer != NOT_ASKED ? "fault " + -answer : "right", 1, Integer::sum);
   }
 
   private int anyType() {
@@ -188,7 +191,7 @@ public final class AgainstModel {
     int what = seldom(40) ? any(-1, 3) : random.nextInt(3);
     int name = newName();
     int type = anyType();
-    int kind = type >= 0 && type < types ? book.typeOf(type, 0) : 0;
+    int kind = type >= 0 && type < types ? model.typeOf(type, 0) : 0;
     int node = what == 0 ? constantFor(type, kind) : any(-1, 0, 7);
     note(name, ask("declare " + what + " " + name + " " + type + " " + node,
         () -> book.declare(what, name, type, node), () -> model.declare(what, name, type, node)));
@@ -200,7 +203,7 @@ public final class AgainstModel {
 
   private int constantFor(int type, int kind) {
     if (kind == 3 && !seldom(6)) {
-      return row(book.typeOf(type, 3));
+      return row(model.typeOf(type, 3));
     }
     return seldom(40) ? any(-1, 5000) : expression(kind, 2);
   }
@@ -366,7 +369,7 @@ public final class AgainstModel {
   }
 
   private void lookAround(int root) {
-    for (int node = root; node >= Math.max(0, root - 2) && calls < 490; node--) {
+    for (int node = root; node >= Math.max(0, root - 2); node--) {
       int at = node;
       for (int part = 0; part < 4; part++) {
         int what = part;

@@ -2,27 +2,12 @@
 public final class Limits {
   public static void main(String[] args) {
     Desk d = new Desk();
-    types(d);
     objects(d);
     scopesAndNames(d);
     d.end();
   }
 
-  private static void types(Desk d) {
-    int range = d.node(11, 0, d.number(1), d.number(2));
-    int names = d.node(53, 110, d.name(111));
-    for (int type = 5; type < 1000; type++) {
-      d.due("type", d.book.type(range), type);
-    }
-    d.state("1001 types", () -> d.book.type(range));
-    d.state("1001 types by enumeration", () -> d.book.enumeration(names));
-    d.due("a type that is there", d.book.type(d.node(10, 0)), 2);
-    d.due("a fault before the limit", d.book.type(d.node(11, 0, d.number(2), d.number(1))), -8);
-    d.due("the last one", d.book.typeOf(999, 2), 2);
-  }
-
   private static void objects(Desk d) {
-    d.fresh();
     int row = d.rowUp(0, 63);
     int node = d.row("UX01ZWLH".repeat(8));
     for (int i = 0; i < 2000; i++) {

@@ -34,12 +34,5 @@ public final class Promise02Add {
       d.due("node", d.book.add(i == 0 ? 2 : 20, i == 0 ? 5 : 1, i == 0 ? 0 : 1), i);
     }
     d.is("a tree 500 deep", 499, TypeBook.INTEGER, -5);
-    // Beyond 512 calls answers are free, but the machine must not throw.
-    for (int i = 500; i < 4000; i++) {
-      d.book.add(20, 2, 1);
-    }
-    d.state("4000 nodes", () -> d.book.add(2, 0, 0));
-    d.argument("another number before no room", () -> d.book.add(2, 0, 2));
-    d.due("all nodes", d.book.clear(), 4000);
   }
 }

@@ -111,10 +111,10 @@ public final class Promise09Declare {
   private static void manyConstants() {
     d.fresh();
     int row = d.rowDown(2, 0);
-    for (int i = 0; i < 40; i++) {
+    for (int i = 0; i < 30; i++) {
       d.constant(100 + i, row, d.apply(Desk.BITS, d.number(i), d.number(3)));
     }
-    for (int i = 0; i < 40; i++) {
+    for (int i = 0; i < 30; i++) {
       int node = d.name(100 + i);
       d.isRow("constant " + i, node, Integer.toBinaryString(8 + i % 8).substring(1));
       d.due("its number", d.book.about(node, 3), i);

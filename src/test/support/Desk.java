@@ -38,7 +38,7 @@ final class Desk {
     dueThrow(what, call, IllegalStateException.class);
   }
 
-  private void dueThrow(String what, Call call, Class<?> due) {
+  void dueThrow(String what, Call call, Class<?> due) {
     String got;
     try {
       got = "answered " + call.answer();
