@@ -11,6 +11,7 @@ public final class AgainstModel {
   }
 
   private static final int RUNS = 6000, MOST_CALLS = 512, NOT_ASKED = -100;
+  private static final int MOST = 2147483647;
   private static final int[] NAMES = {0, 3, 5, 6, 7, 8, 10, 11, 17, 99};
   private static final Map<String, Integer> met = new HashMap<>();
 
@@ -140,9 +141,10 @@ public final class AgainstModel {
     if (kind == 10) {
       node = add(10, anyName(), seldom(30) ? 1 : 0);
     } else {
-      int base = random.nextInt(20);
-      bound(kind == 13 ? base + random.nextInt(9) : base);
-      bound(kind == 13 ? base : base + random.nextInt(9));
+      int base = seldom(12) ? MOST - any(0, 8, 62, 63, 64) : random.nextInt(20);
+      int other = (int) Math.min(MOST, (long) base + (seldom(12) ? any(62, 63, 64, 65) : random.nextInt(9)));
+      bound(kind == 13 ? other : base);
+      bound(kind == 13 ? base : other);
       node = add(kind, seldom(20) ? 1 : kind == 11 ? 0 : 5, seldom(25) ? 1 : 2);
     }
     if (node >= 0) {
@@ -257,7 +259,7 @@ public final class AgainstModel {
     return switch (kind) {
       case 0 -> add(3, random.nextInt(9), 0);
       case 1 -> add(1, any(6, 7), 0);
-      case 2 -> add(2, any(0, 1, 2, 3, 5, 9, 30, 65536, 2147483647), 0);
+      case 2 -> add(2, any(0, 1, 2, 3, 5, 9, 30, 63, 64, 65536, MOST - 1, MOST), 0);
       case 3 -> row(any(1, 2, 4, 4, 4));
       default -> add(1, anyName(), 0);
     };
@@ -340,7 +342,7 @@ public final class AgainstModel {
         if (seldom(5)) {
           expression(2, 1);
         } else {
-          add(2, any(0, 1, 3, 4, 40, 64, 65), 0);
+          add(2, any(0, 1, 3, 4, 40, 63, 64, 65), 0);
         }
         return add(22, 11, 2);
       }

@@ -107,14 +107,17 @@ public final class Edges02Add {
    */
   private static void full() {
     d.fresh();
-    for (int i = 0; i < 3999; i++) {
+    int wrong = d.name(Desk.NOTHING);
+    for (int i = 1; i < 3999; i++) {
       d.book.add(3, 0, 0);
     }
+    d.fault("a fault before", wrong, 1);
     d.due("the 4000th", d.book.add(2, 7, 0), 3999);
     d.state("the 4001st", () -> d.book.add(2, 7, 0));
     d.state("the 4001st, over all trees", () -> d.book.add(4, 0, 4000));
     d.argument("not so many trees", () -> d.book.add(4, 0, 4001));
     d.argument("no kind", () -> d.book.add(100, 0, 0));
+    d.due("the place stays", d.book.place(), wrong);
     d.is("the last one is there", 3999, TypeBook.INTEGER, 7);
     d.index("and none behind it", () -> d.book.about(4000, 0));
     d.due("all of them", d.book.clear(), 4000);

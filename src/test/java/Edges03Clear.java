@@ -7,6 +7,7 @@ public final class Edges03Clear {
     allNodesGo();
     typesObjectsScopesStay();
     numbersBeginAnew();
+    rowsBeginAnew();
     d.end();
   }
 
@@ -75,5 +76,49 @@ public final class Edges03Clear {
     d.due("as a row", d.row("Z"), 1);
     d.isUnknown("not looked at", 0);
     d.isUnknown("nor this", 1);
+  }
+
+  /** A row by the number of one that went, and as long or shorter, has nothing of its elements. */
+  private static void rowsBeginAnew() {
+    String[] rows = {"HHHH", "UUUU", "----", "0000", "X1LZ", "UUUU"};
+    d.fresh();
+    for (String row : rows) {
+      d.book.clear();
+      d.due("the same number", d.row(row), 4);
+      d.isRow("another row", 4, row);
+    }
+    for (String before : new String[] {"HHHH", "ZZZZ"}) {
+      shorterRows(before);
+    }
+  }
+
+  private static void shorterRows(String before) {
+    int[] due = {1, 0, 0, 1, 0, 1};
+    for (int operator = Desk.SAME; operator <= Desk.NOT_LESS; operator++) {
+      longerRowsWent(before);
+      d.is("operator " + operator, d.binary(operator, shortRow(4), shortRow(7)), TypeBook.TRUTH,
+          due[operator - Desk.SAME]);
+    }
+    longerRowsWent(before);
+    d.isRow("their sum", d.binary(Desk.SUM, shortRow(4), shortRow(7)), "10");
+    longerRowsWent(before);
+    d.is("its number", d.apply(Desk.NUMBER, shortRow(4)), TypeBook.INTEGER, 1);
+  }
+
+  /** By the numbers 4 and 7 there were rows of four and of seven; two nodes are there again. */
+  private static void longerRowsWent(String before) {
+    d.fresh();
+    d.book.check(d.row(before), TypeBook.NONE);
+    d.book.clear();
+    d.book.check(d.row("0000000"), TypeBook.NONE);
+    d.book.clear();
+    d.number(1);
+    d.number(1);
+  }
+
+  private static int shortRow(int number) {
+    int node = d.row("01");
+    d.due("its number", node, number);
+    return node;
   }
 }

@@ -13,6 +13,7 @@ public final class Edges04Enter {
     for (int scopes = 2; scopes <= 32; scopes++) {
       d.book.enter();
     }
+    d.book.check(d.name(Desk.NOTHING), TypeBook.NONE);
   }
 
   /** "how many there are" */

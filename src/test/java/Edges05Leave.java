@@ -27,6 +27,7 @@ public final class Edges05Leave {
     new Refusals(d, () -> {
       d.book.declare(Desk.SIGNAL, 100, Desk.LOGIC, 0);
       d.enumeration(110, 111);
+      d.book.check(d.name(Desk.NOTHING), TypeBook.NONE);
     }, 100, 110, 111).state("the last", () -> d.book.leave());
     d.fresh();
     d.book.subtype(100, Desk.TRUTH);

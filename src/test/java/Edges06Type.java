@@ -188,11 +188,14 @@ public final class Edges06Type {
     int range = bounds(11, 1, 2);
     int named = d.node(10, 0);
     int wrong = bounds(11, 2, 1);
+    int other = bounds(11, 3, 4);
     for (int type = 5; type <= 999; type++) {
       d.due("type", d.book.type(range), type);
     }
     d.book.type(wrong);
     d.state("the 1001st", () -> d.book.type(range));
+    d.state("the 1001st by another node", () -> d.book.type(other));
+    d.isUnknown("what throws tells nothing of a bound", other - 1);
     d.due("what throws leaves the place", d.book.place(), wrong);
     d.due("no new one is needed", d.book.type(named), Desk.INTEGERS);
     d.due("a fault needs none", d.book.type(wrong), -8);

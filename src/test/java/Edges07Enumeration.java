@@ -129,7 +129,7 @@ public final class Edges07Enumeration {
     d.fresh();
     namesBut1();
     int two = names(3009, 3010, 1);
-    d.state("the 3000th and 3001st", () -> d.book.enumeration(two));
+    d.stateKeepsPlace("the 3000th and 3001st", () -> d.book.enumeration(two));
     d.fault("neither is there", d.name(3009), 1);
     d.fault("neither is there", d.name(3010), 1);
     d.index("nor is the type", () -> d.book.typeOf(52, 0));
@@ -162,7 +162,7 @@ public final class Edges07Enumeration {
       d.book.type(range);
     }
     d.due("the 1000th", d.book.enumeration(node), 999);
-    d.state("the 1001st", () -> d.book.enumeration(other));
+    d.stateKeepsPlace("the 1001st", () -> d.book.enumeration(other));
     d.fault("its place is not there", d.name(201), 1);
     d.due("a fault is told though there is no room", d.book.enumeration(node), -7);
   }

@@ -82,7 +82,7 @@ public final class Edges08Subtype {
     for (int i = 2926; i <= 3000; i++) {
       d.due("name " + i, d.book.subtype(i, 0), 0);
     }
-    d.state("the 3001st", () -> d.book.subtype(3001, 0));
+    d.stateKeepsPlace("the 3001st", () -> d.book.subtype(3001, 0));
     d.due("a fault is told though there is no room", d.book.subtype(3000, 0), -7);
     d.argument("no name", () -> d.book.subtype(10000, 0));
     d.index("no type", () -> d.book.subtype(3001, 77));

@@ -110,6 +110,9 @@ public final class Edges09Declare {
     fault("one more", 4, Refusals.DOWN_TYPE, () -> d.row("10101"));
     refusals.fault("a fault below", 1, node -> node - 1, () -> d.unary(0, d.name(99)),
         node -> d.book.declare(Desk.CONSTANT, Refusals.FREE, Desk.TRUTH, node));
+    refusals.fault("a fault below before the node's own", 6, node -> node - 1,
+        () -> d.unary(0, d.apply(Refusals.ROW_SIGNAL, d.number(4))),
+        node -> d.book.declare(Desk.CONSTANT, Refusals.FREE, Desk.INTEGERS, node));
     d.fresh();
     int wide = d.rowDown(63, 0);
     d.due("64", d.book.declare(Desk.CONSTANT, 100, wide, d.row("UX01ZWLH".repeat(8))), 0);
@@ -203,8 +206,8 @@ public final class Edges09Declare {
     }
     int node = d.number(5);
     int signal = d.name(2926);
-    d.state("the 3001st, a signal", () -> d.book.declare(Desk.SIGNAL, 3001, Desk.LOGIC, 0));
-    d.state("the 3001st, a constant", () -> d.book.declare(Desk.CONSTANT, 3001, Desk.INTEGERS, node));
+    d.stateKeepsPlace("the 3001st, a signal", () -> d.book.declare(Desk.SIGNAL, 3001, Desk.LOGIC, 0));
+    d.stateKeepsPlace("the 3001st, a constant", () -> d.book.declare(Desk.CONSTANT, 3001, Desk.INTEGERS, node));
     d.isUnknown("what throws tells nothing", node);
     d.due("a fault is told though there is no room", d.book.declare(Desk.CONSTANT, 3001, Desk.LOGIC, node), -3);
     d.due("not constant", d.book.declare(Desk.CONSTANT, 3001, Desk.LOGIC, signal), -5);
@@ -222,11 +225,10 @@ public final class Edges09Declare {
       d.book.declare(i % 2 + 1, 100 + i, Desk.LOGIC, 0);
     }
     d.due("the 2000th", d.book.declare(Desk.CONSTANT, 9000, Desk.INTEGERS, node), 1999);
-    d.state("the 2001st", () -> d.book.declare(Desk.SIGNAL, 9001, Desk.LOGIC, 0));
+    d.stateKeepsPlace("the 2001st", () -> d.book.declare(Desk.SIGNAL, 9001, Desk.LOGIC, 0));
     d.state("the 2001st", () -> d.book.declare(Desk.CONSTANT, 9001, Desk.INTEGERS, node));
     d.due("7", d.book.declare(Desk.SIGNAL, 9000, Desk.LOGIC, 0), -7);
-    d.is("the 2000th is there", d.name(9000), TypeBook.INTEGER, 5);
-    d.due("its number", d.book.about(1, 3), 1999);
+    d.looks("the 2000th is there", d.name(9000), TypeBook.INTEGER, 0, 1, 1999);
     d.fault("the 2001st is not", d.name(9001), 1);
     d.due("names have room", d.book.subtype(9001, 0), 0);
   }

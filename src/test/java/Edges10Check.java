@@ -12,6 +12,7 @@ public final class Edges10Check {
     lengthsThatDoNotGo();
     outside();
     notOutside();
+    faultsBelow();
     itAndAllInIt();
     d.end();
   }
@@ -136,6 +137,18 @@ public final class Edges10Check {
     d.due("nor this", d.book.check(d.binary(Desk.SUM, d.name(100), d.number(MOST)), small), 0);
     int part = d.number(9);
     d.due("a part does not count", d.book.check(d.binary(Desk.DIFFERENCE, part, d.number(6)), small), 0);
+  }
+
+  /** "children before their parent": what the type asks for is asked of the node itself, behind all below it. */
+  private static void faultsBelow() {
+    for (int type : new int[] {TypeBook.NONE, Desk.LOGIC, Desk.TRUTH, Desk.FROM_1, Refusals.DOWN_TYPE}) {
+      refusals.fault("9 below, type " + type, 9, node -> node - 1,
+          () -> d.unary(1, d.binary(Desk.SUM, d.number(MOST), d.number(1))), node -> d.book.check(node, type));
+      refusals.fault("10 below, type " + type, 10, node -> node - 1,
+          () -> d.unary(1, d.binary(Desk.QUOTIENT, d.number(1), d.number(0))), node -> d.book.check(node, type));
+      refusals.fault("6 below, type " + type, 6, node -> node - 1,
+          () -> d.unary(0, d.apply(Refusals.CONSTANT, d.number(4))), node -> d.book.check(node, type));
+    }
   }
 
   /** "it and all in it get their classes, values and meanings" – and nothing that is not in it. */

@@ -8,6 +8,7 @@ public final class Edges13About {
     parts();
     never();
     latestWithoutAFault();
+    rowsLookedAtAgain();
     byTypeAndDeclare();
     lengths();
     meanings();
@@ -85,15 +86,43 @@ public final class Edges13About {
     d.due("its part", d.book.about(name, 3), 0);
   }
 
+  /** A row that is looked at again, where its names mean other rows, has nothing of its old elements. */
+  private static void rowsLookedAtAgain() {
+    d.fresh();
+    int type = d.rowDown(3, 0);
+    int other = d.rowUp(0, 2);
+    d.constant(100, type, d.row("HHHH"));
+    int[] nodes = {d.unary(0, d.name(100)), d.binary(Desk.XOR, d.name(100), d.name(100)),
+        d.binary(Desk.JOINED, d.name(100), d.name(100)), d.binary(Desk.LEFT, d.name(100), d.number(1)),
+        d.binary(Desk.SUM, d.name(100), d.name(100))};
+    checkRows(nodes, "0000", "0000", "HHHHHHHH", "HHH0", "1110");
+    d.book.enter();
+    d.constant(100, type, d.row("UX0Z"));
+    checkRows(nodes, "UX1X", "UX0X", "UX0ZUX0Z", "X0Z0", "XXXX");
+    d.book.enter();
+    d.constant(100, other, d.row("0L1"));
+    checkRows(nodes, "110", "000", "0L10L1", "L10", "010");
+    d.book.leave();
+    checkRows(nodes, "UX1X", "UX0X", "UX0ZUX0Z", "X0Z0", "XXXX");
+  }
+
+  private static void checkRows(int[] nodes, String... due) {
+    for (int i = 0; i < nodes.length; i++) {
+      d.isRow("row " + i, nodes[i], due[i]);
+    }
+  }
+
   /** "by check(), type(), declare()" */
   private static void byTypeAndDeclare() {
     d.fresh();
     int low = d.number(1);
     int high = d.number(2);
     int range = d.node(11, 0, low, high);
+    int behind = d.number(3);
     d.book.type(range);
     d.due("by type", d.book.about(low, 0), TypeBook.INTEGER);
     d.due("by type", d.book.about(high, 0), TypeBook.INTEGER);
+    d.isUnknown("not in it", behind);
     int sign = d.sign('Z');
     int node = d.unary(0, sign);
     d.book.declare(Desk.CONSTANT, 100, Desk.LOGIC, node);

@@ -64,7 +64,8 @@ public final class EdgesOfFaults {
     int left = d.name(TYPE);
     d.fault("the left of two", d.binary(Desk.SUM, left, d.name(99)), TypeBook.NONE, 2, left);
     int leftTop = d.unary(1, d.sign('1'));
-    d.fault("the left's top before the right's leaf", d.binary(Desk.SUM, leftTop, d.name(99)), TypeBook.NONE, 3, leftTop);
+    d.fault("the left's top before the right's leaf", d.binary(Desk.SUM, leftTop, d.name(99)), TypeBook.NONE, 3,
+        leftTop);
     d.number(1);
     int right = d.name(99);
     d.fault("the right one", d.book.add(21, 77, 2), TypeBook.NONE, 1, right);

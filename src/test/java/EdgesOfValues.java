@@ -90,8 +90,8 @@ public final class EdgesOfValues {
   /** "16 quotient (towards 0), 17 modulus (with the sign of b), 18 remainder (with the sign of a)" */
   private static void divided() {
     int[][] due = {{7, 3, 2, 1, 1}, {-7, 3, -2, 2, -1}, {7, -3, -2, -2, 1}, {-7, -3, 2, -1, -1}, {6, 3, 2, 0, 0},
-        {-6, 3, -2, 0, 0}, {6, -3, -2, 0, 0}, {2, 3, 0, 2, 2}, {-2, 3, 0, 1, -2}, {2, -3, 0, -1, 2}, {-2, -3, 0, -2, -2},
-        {MOST, 1, MOST, 0, 0}, {MOST, -1, -MOST, 0, 0}, {-MOST, 1, -MOST, 0, 0}, {-MOST, -1, MOST, 0, 0},
+        {-6, 3, -2, 0, 0}, {6, -3, -2, 0, 0}, {2, 3, 0, 2, 2}, {-2, 3, 0, 1, -2}, {2, -3, 0, -1, 2},
+        {-2, -3, 0, -2, -2}, {MOST, 1, MOST, 0, 0}, {MOST, -1, -MOST, 0, 0}, {-MOST, 1, -MOST, 0, 0}, {-MOST, -1, MOST, 0, 0},
         {MOST, MOST, 1, 0, 0}, {-MOST, MOST, -1, 0, 0}, {MOST, -MOST, -1, 0, 0}, {1, -MOST, 0, -MOST + 1, 1},
         {-1, MOST, 0, MOST - 1, -1}, {MOST - 1, MOST, 0, MOST - 1, MOST - 1}, {-MOST, 2, -1073741823, 1, -1}};
     for (int[] row : due) {

@@ -10,6 +10,8 @@ final class Desk {
   static final int LOGIC = 0, TRUTH = 1, INTEGERS = 2, FROM_0 = 3, FROM_1 = 4;
   static final int CONSTANT = 0, SIGNAL = 1, VARIABLE = 2;
   static final int TRUE = 6, FALSE = 7, RISING = 8, FALLING = 9, NUMBER = 10, BITS = 11;
+  /** A name that no test declares. */
+  static final int NOTHING = 99;
   private static final String SIGNS = "UX01ZWLH-";
 
   TypeBook book = new TypeBook();
@@ -139,6 +141,14 @@ final class Desk {
 
   void fault(String what, int node, int fault) {
     fault(what, node, TypeBook.NONE, fault, node);
+  }
+
+  /** A refused call leaves the place of the latest fault, and there is one. */
+  void stateKeepsPlace(String what, Call call) {
+    int wrongNode = name(NOTHING);
+    fault(what + ": a fault before", wrongNode, 1);
+    state(what, call);
+    due(what + ": the place stays", book.place(), wrongNode);
   }
 
   void looks(String what, int node, int kind, int extent, int constant, int meaning) {
