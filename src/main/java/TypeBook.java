@@ -256,12 +256,13 @@ public final class TypeBook {
     return name >= 0 && name <= LAST_NAME;
   }
 
+  /** Goes from the right to the left, so that of what is wrong the first child stays, and the node counts last. */
   private int malformedEnumNode(int node) {
-    int places = trees.countOf(node);
-    if (trees.kindOf(node) != ENUM || places < 1 || places > MOST_PLACES) {
+    if (trees.kindOf(node) != ENUM) {
       return node;
     }
-    int wrong = NONE;
+    int places = trees.countOf(node);
+    int wrong = places < 1 || places > MOST_PLACES ? node : NONE;
     int child = node - 1;
     for (int i = 0; i < places; i++) {
       if (trees.kindOf(child) != NAME || trees.countOf(child) != 0) {

@@ -7,6 +7,7 @@ public final class Edges07Enumeration {
     nodes();
     kind();
     from1To64();
+    childrenFirst();
     taken();
     notTaken();
     full();
@@ -14,10 +15,14 @@ public final class Edges07Enumeration {
     d.end();
   }
 
-  private static int names(int own, int first, int count) {
+  private static void leaves(int first, int count) {
     for (int i = 0; i < count; i++) {
       d.name(first + i);
     }
+  }
+
+  private static int names(int own, int first, int count) {
+    leaves(first, count);
     return d.book.add(53, own, count);
   }
 
@@ -68,6 +73,26 @@ public final class Edges07Enumeration {
     d.is("the least", d.name(0), TypeBook.ENUMERATION, 0);
     d.is("the greatest but one", d.name(9998), TypeBook.ENUMERATION, 1);
     d.due("the greatest", d.book.type(d.node(10, 9999)), 5);
+  }
+
+  /** "The fault's NODE is the first one that has any, children before their parent, from the left" */
+  private static void childrenFirst() {
+    fault("65, the first no NAME", 11, 65, () -> {
+      d.number(1);
+      leaves(Refusals.FREE + 1, 64);
+      return d.book.add(53, Refusals.FREE, 65);
+    });
+    fault("65, the last no NAME", 11, 1, () -> {
+      leaves(Refusals.FREE + 1, 64);
+      d.number(1);
+      return d.book.add(53, Refusals.FREE, 65);
+    });
+    fault("66, the last two no leaves", 11, 3, () -> {
+      leaves(Refusals.FREE + 1, 64);
+      d.node(1, Refusals.FREE, d.number(1));
+      d.node(1, Refusals.FREE, d.number(1));
+      return d.book.add(53, Refusals.FREE, 66);
+    });
   }
 
   /**

@@ -268,13 +268,16 @@ final class Model {
   }
 
   private void lookAtEnum(Node node) {
-    if (node.kind != 53 || node.kids.isEmpty() || node.kids.size() > 64) {
+    if (node.kind != 53) {
       throw new Fault(11, node.id);
     }
     for (Node kid : node.kids) {
       if (kid.kind != 1 || !kid.kids.isEmpty()) {
         throw new Fault(11, kid.id);
       }
+    }
+    if (node.kids.isEmpty() || node.kids.size() > 64) {
+      throw new Fault(11, node.id);
     }
     if (innermost().containsKey(node.value)) {
       throw new Fault(7, node.id);
